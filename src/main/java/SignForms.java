@@ -318,7 +318,7 @@ public final class SignForms {
 
         /** Looks at bytes from .. to - 1 of a row; when they are the last ones, all is decided. */
         void look(int[] row, int from, int to, int form, boolean last) {
-            tell(false, 0, 0);
+            tellNothing();
             if (from < 0 || from >= to || to > row.length) {
                 return;
             }
@@ -340,18 +340,22 @@ public final class SignForms {
             }
         }
 
-        private void tell(boolean newIsSign, int newSign, int newLength) {
-            isSign = newIsSign;
+        private void tellSign(int newSign, int newLength) {
+            isSign = true;
             sign = newSign;
             length = newLength;
         }
 
-        private void tellSign(int newSign, int newLength) {
-            tell(true, newSign, newLength);
+        private void tellSubpart(int newLength) {
+            isSign = false;
+            sign = NONE;
+            length = newLength;
         }
 
-        private void tellSubpart(int newLength) {
-            tell(false, 0, newLength);
+        private void tellNothing() {
+            isSign = false;
+            sign = NONE;
+            length = 0;
         }
 
         /** A first half at the end is a SUBPART without the odd byte that may be behind it. */
@@ -421,7 +425,10 @@ public final class SignForms {
             return lead == 0xF4 ? 0x8F : 0xBF;
         }
 
-        /** The first half's three bytes came; the SUBPART may go on into what comes behind them. */
+        /**
+         * The first half's three bytes came; a SUBPART may go on into what comes behind them. The mask
+         * takes off what the fourth byte, a first one, has above its four bits of the number.
+         */
         private void lookAtSecondHalf(int[] row, int from, int to, int first) {
             int number = 0;
             for (int k = 0; k < SECOND_HALF_LEAST.length; k++) {
@@ -700,8 +707,8 @@ public final class SignForms {
         }
 
         void addSign(int form, int sign) {
-            boolean halved = sign >= FIRST_HALVED && form != BYTES && form != FOURS_HIGH && form != FOURS_LOW;
-            if (halved) {
+            boolean byHalves = form == PAIRS_HIGH || form == PAIRS_LOW || form == HALVED_BYTES;
+            if (byHalves && sign >= FIRST_HALVED) {
                 addNumber(form, Halves.firstOf(sign));
                 addNumber(form, Halves.secondOf(sign));
             } else {
@@ -731,11 +738,17 @@ public final class SignForms {
                 add(number);
                 return;
             }
-            int leadBits = 0xFF & ~(0xFF >> length);
-            add(leadBits + (number >> (6 * (length - 1))));
+            add(leadOf(length) + (number >> (6 * (length - 1))));
             for (int k = length - 2; k >= 0; k--) {
                 add(0x80 + ((number >> (6 * k)) & 0x3F));
             }
+        }
+
+        private static int leadOf(int length) {
+            if (length == 2) {
+                return 0xC0;
+            }
+            return length == 3 ? 0xE0 : 0xF0;
         }
 
         private void addLowFirst(int number, int length) {

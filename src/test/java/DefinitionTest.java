@@ -81,6 +81,10 @@ public final class DefinitionTest {
 
     private void put() {
         int stream = stream();
+        if (random.nextInt(3) == 0) {
+            putSign(stream);
+            return;
+        }
         int n = random.nextInt(40) == 0 ? wild() : random.nextInt(3) == 0 ? 8 : 1 + random.nextInt(8);
         long w = 0;
         switch (random.nextInt(4)) {
@@ -95,6 +99,25 @@ public final class DefinitionTest {
                     w = w << 8 | EDGE_BYTES[random.nextInt(EDGE_BYTES.length)];
                 }
                 break;
+        }
+        put(stream, w, n);
+    }
+
+    /** What a sign stands in, in the stream's form most of the time, sometimes with a wrong byte or cut. */
+    private void putSign(int stream) {
+        int form = model.about(stream, 0);
+        int sign = EDGE_SIGNS[random.nextInt(EDGE_SIGNS.length)] ^ random.nextInt(4);
+        if (form < 0 || form > 5 || random.nextInt(8) == 0) {
+            form = random.nextInt(6);
+        }
+        int[] row = Model.encoded(form, Character.isValidCodePoint(sign) ? sign : 0x10FFFF);
+        if (random.nextInt(3) == 0) {
+            row[random.nextInt(row.length)] = EDGE_BYTES[random.nextInt(EDGE_BYTES.length)];
+        }
+        int n = random.nextInt(4) == 0 ? 1 + random.nextInt(row.length) : row.length;
+        long w = 0;
+        for (int k = 0; k < n; k++) {
+            w = w << 8 | row[k];
         }
         put(stream, w, n);
     }

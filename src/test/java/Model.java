@@ -36,7 +36,7 @@ final class Model {
         return key(row, 0, row.length);
     }
 
-    private static int[] encoded(int form, int sign) {
+    static int[] encoded(int form, int sign) {
         return unsigned(Character.toString(sign).getBytes(Charset.forName(CHARSETS[form])));
     }
 

@@ -186,8 +186,10 @@ public final class PromisesTest {
         due.is("i before ROOM", x.pour(1, 1001, 1), NONE);
         x.end(1);
         due.is("STATE before ROOM", x.pour(1, 0, 1), STATE);
-        x.open(2, 3, 0);
-        x.write(1, 3, false);
+        x.write(1, 0, false);
+        x.open(2, 0, 0);
+        due.is("pour 2000 at once", x.pour(2, 0, 2000), 2000);
+        facts(x, 2, 0, 2000, 2000, 0, 0, 0, NONE, 0, NONE);
     }
 
     // Promise 5
@@ -365,6 +367,12 @@ public final class PromisesTest {
         parted(4, new int[] {0xFF, 0xD7, 0, 0, 0, 0xE0, 0, 0, 0, 0, 0, 0x80, 0xFF, 0xFF, 0xFF, 0xFF, 0}, 4, 4, -4, -4, -1);
         parted(5, new int[] {0xED, 0xA0, 0x80, 0xED, 0x80, 0x80}, -4, -1, -1);
         parted(5, new int[] {0xED, 0xA0, 0x80, 0xED, 0xBF, 0x41}, -5, 1);
+        parted(5, new int[] {0xED, 0xA0, 0x80, 0xED, 0xAF, 0x41}, -4, -1, 1);
+        parted(5, new int[] {0xED, 0xA0, 0x80, 0xED, 0xC0, 0x41}, -4, -1, 1);
+        parted(5, new int[] {0xED, 0xA0, 0x80, 0xED, 0xB0, 0x7F}, -5, 1);
+        parted(5, new int[] {0xED, 0xA0, 0x80, 0xED, 0xB0, 0xC0}, -5, -1);
+        parted(5, new int[] {0xED, 0xA0, 0x80, 0xEC, 0x80, 0x80}, -3, 3);
+        parted(5, new int[] {0xED, 0xA0, 0x80, 0xEE, 0x80, 0x80}, -3, 3);
         parted(5, new int[] {0xED, 0xAF, 0xBF, 0xED, 0xBF, 0xBF, 0xED, 0xAF, 0xBF}, 6, -3);
         parted(5, new int[] {0xED, 0xA0, 0xED, 0xB0, 0x80, 0xED, 0x9F, 0xBF}, -2, -1, -1, -1, 3);
         parted(5, new int[] {0xED, 0xA0, 0x80, 0x41, 0xF0, 0x90, 0x80, 0x80}, -3, 1, -1, -1, -1, -1);
@@ -413,6 +421,12 @@ public final class PromisesTest {
             due.is("sign, stream", x.sign(wrong, 0), NONE);
             due.is("placed, stream", x.placed(wrong, 0, 0), NONE);
         }
+        x.open(1, 5, 0);
+        put(x, 1, 0xED, 0xA0, 0x80, 0xED, 0xB0, 0x80, 0xED, 0xA0, 0x80, 0xED, 0xB0, 0x81);
+        put(x, 1, 0xED, 0xA0, 0xBD, 0xED, 0xB8, 0x80, 0xED, 0xAF, 0xBF, 0xED, 0xBF, 0xBF);
+        signs(x, 1, 0x10000, 0x10001, 0x1F600, 0x10FFFF);
+        row(x, 1, 0, 0, 6, 12, 18);
+        row(x, 1, 1, 6, 6, 6, 6);
         x.open(1, 6, 1);
         put(x, 1, 0xFF, 0xFE, 0x00, 0xDC, 0x3D, 0xD8, 0x00, 0xDE, 0x41, 0x00);
         signs(x, 1, 0x1F600, 0x41);
@@ -499,6 +513,13 @@ public final class PromisesTest {
         due.is("the out stays right", x.check(0), RIGHT);
         due.is("pour of 6000", x.pour(0, 0, 6000), ROOM);
         due.is("form before ROOM", x.write(0, 6, false), NONE);
+        x.open(0, 0, 0);
+        x.put(0, 0x41FFFFFFFFFFFFFFL, 8);
+        for (int k = 1; k < 250; k++) {
+            x.put(0, -1L, 8);
+        }
+        due.is("write of 5998", x.write(0, 0, false), 5998);
+        due.is("write of 6001", x.write(0, 0, true), ROOM);
         x.open(0, 0, 0);
         for (int k = 0; k < 187; k++) {
             x.put(0, 0x4141414141414141L, 8);
@@ -638,7 +659,10 @@ public final class PromisesTest {
         ordered(x, new int[] {0xD7FF}, new int[] {0x10000}, 1, 1, 2);
         ordered(x, new int[] {0x1FF}, new int[] {0x200}, 1, 1, 2);
         ordered(x, new int[] {0x141}, new int[] {0x241}, 1, 1, 1);
+        ordered(x, new int[] {0x41}, new int[] {0x141}, 1, 1, 1);
         ordered(x, new int[] {0x10001}, new int[] {0x10100}, 1, 1, 2);
+        ordered(x, new int[] {0x10000}, new int[] {0x10100}, 1, 1, 1);
+        ordered(x, new int[] {0x1F4FF}, new int[] {0x5F400}, 1, 1, 1);
         ordered(x, new int[] {0x10100}, new int[] {0x10200}, 1, 1, 1);
         ordered(x, new int[] {0x10FC00}, new int[] {0x10000}, 2, 2, 2);
         ordered(x, new int[] {0x41, 0x3DD8}, new int[] {0x41, 0x1F600}, 1, 1, 2);
