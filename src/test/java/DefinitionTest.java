@@ -3,7 +3,8 @@ import java.util.Random;
 /** Random runs of calls beside the model; the seeds are fixed, so that every run can be run again. */
 public final class DefinitionTest {
     private static final int RUNS = 600;
-    private static final int CALLS = 512;
+    private static final int RANDOM_CALLS = 500;
+    private static final int FEWER_CALLS = 150;
     private static final int[] EDGE_BYTES = {
         0x00, 0x41, 0x7F, 0x80, 0x8F, 0x90, 0x9F, 0xA0, 0xAF, 0xB0, 0xBB, 0xBF, 0xC0, 0xC1, 0xC2, 0xC3, 0xD7, 0xD8,
         0xDB, 0xDC, 0xDF, 0xE0, 0xE1, 0xEC, 0xED, 0xED, 0xED, 0xEE, 0xEF, 0xF0, 0xF1, 0xF4, 0xF5, 0xFE, 0xFF, 0x10, 0x11,
@@ -16,7 +17,7 @@ public final class DefinitionTest {
 
     private final Due due;
     private final Random random;
-    private final SignForms x = new SignForms();
+    private final Counted x = new Counted();
     private final Model model = new Model();
     private final int seed;
 
@@ -41,7 +42,9 @@ public final class DefinitionTest {
             }
         }
         int style = random.nextInt(4);
-        for (int call = 5; call < CALLS; call++) {
+        boolean askAll = seed % 4 == 0;
+        int kept = Counted.MOST_CALLS - (askAll ? FEWER_CALLS : RANDOM_CALLS);
+        while (x.callsLeft() > kept) {
             int kind = random.nextInt(20);
             if (kind < (style == 0 ? 14 : 6)) {
                 put();
@@ -51,7 +54,7 @@ public final class DefinitionTest {
                 ask();
             }
         }
-        if (seed % 20 == 0) {
+        if (askAll) {
             askAll();
         }
     }
@@ -206,24 +209,28 @@ public final class DefinitionTest {
         is("among", x.among(stream, from, to), model.among(stream, from, to), stream, from, to);
     }
 
-    /** Asks for the whole state, beyond the calls that the document counts. */
+    /** Asks for all there is, a stream after the other, until no call is left. */
     private void askAll() {
-        for (int s = 0; s < 4; s++) {
-            for (int what = 0; what < 9; what++) {
-                is("about", x.about(s, what), model.about(s, what), s, what);
-            }
-            for (int i = 0; i <= Math.max(0, model.about(s, 2)); i++) {
-                is("sign", x.sign(s, i), model.sign(s, i), s, i);
-                for (int what = 0; what < 3; what++) {
-                    is("placed", x.placed(s, i, what), model.placed(s, i, what), s, i, what);
-                }
-            }
-            for (int place = 0; place <= Math.max(0, model.about(s, 1)); place++) {
-                is("at", x.at(s, place), model.at(s, place), s, place);
+        for (int turn = 0; turn < 4; turn++) {
+            askStream((seed / 4 + turn) % 4);
+        }
+        for (int i = 0; x.callsLeft() > 0 && i <= 6000; i++) {
+            is("out", x.out(i), model.out(i), i);
+        }
+    }
+
+    private void askStream(int s) {
+        for (int what = 0; what < 9 && x.callsLeft() > 0; what++) {
+            is("about", x.about(s, what), model.about(s, what), s, what);
+        }
+        for (int i = model.about(s, 2); i >= 0 && x.callsLeft() > 3; i--) {
+            is("sign", x.sign(s, i), model.sign(s, i), s, i);
+            for (int what = 0; what < 3; what++) {
+                is("placed", x.placed(s, i, what), model.placed(s, i, what), s, i, what);
             }
         }
-        for (int i = 0; i <= 6000; i++) {
-            is("out", x.out(i), model.out(i), i);
+        for (int place = model.about(s, 1); place >= 0 && x.callsLeft() > 0; place--) {
+            is("at", x.at(s, place), model.at(s, place), s, place);
         }
     }
 

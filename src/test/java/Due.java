@@ -15,6 +15,14 @@ final class Due {
         is(call, got ? 1 : 0, want ? 1 : 0);
     }
 
+    void is(String call, String got, String want) {
+        asked++;
+        if (!got.equals(want)) {
+            wrong++;
+            System.out.println(call + " answered '" + got + "', due is '" + want + "'");
+        }
+    }
+
     int wrong() {
         return wrong;
     }

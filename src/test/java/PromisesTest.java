@@ -28,7 +28,7 @@ public final class PromisesTest {
 
     // Promise 1
     private static void newObject() {
-        SignForms x = new SignForms();
+        Counted x = new Counted();
         due.is("NONE", SignForms.NONE, NONE);
         due.is("STATE", SignForms.STATE, STATE);
         due.is("ROOM", SignForms.ROOM, ROOM);
@@ -50,14 +50,14 @@ public final class PromisesTest {
         for (int form = 0; form < 6; form++) {
             due.is("new: check", x.check(form), RIGHT);
         }
-        SignForms y = new SignForms();
+        Counted y = new Counted();
         y.open(0, 0, 0);
         due.is("objects share no stream", x.about(0, 0), STATE);
     }
 
     // Promise 2
     private static void opening() {
-        SignForms x = new SignForms();
+        Counted x = new Counted();
         for (int wrong : new int[] {LOW, -1, 4, HIGH}) {
             due.is("open, no such stream", x.open(wrong, 0, 0), false);
         }
@@ -89,7 +89,7 @@ public final class PromisesTest {
 
     // Promise 3
     private static void putting() {
-        SignForms x = new SignForms();
+        Counted x = new Counted();
         x.open(0, 0, 0);
         for (int wrong : new int[] {LOW, -1, 4, HIGH}) {
             due.is("put, no such stream", x.put(wrong, 0, 1), NONE);
@@ -112,7 +112,7 @@ public final class PromisesTest {
     }
 
     private static void roomOfPut() {
-        SignForms x = new SignForms();
+        Counted x = new Counted();
         x.open(0, 0, 2);
         for (int k = 1; k <= 249; k++) {
             due.is("put", x.put(0, 0x4141414141414141L, 8), 8 * k);
@@ -134,7 +134,7 @@ public final class PromisesTest {
 
     // Promise 4
     private static void pouring() {
-        SignForms x = new SignForms();
+        Counted x = new Counted();
         x.open(0, 0, 0);
         x.open(1, 0, 0);
         due.is("pour of nothing", x.pour(1, 0, 5), 0);
@@ -167,7 +167,7 @@ public final class PromisesTest {
     }
 
     private static void roomOfPour() {
-        SignForms x = new SignForms();
+        Counted x = new Counted();
         x.open(0, 0, 0);
         for (int k = 0; k < 125; k++) {
             x.put(0, 0x4142434445464748L, 8);
@@ -194,7 +194,7 @@ public final class PromisesTest {
 
     // Promise 5
     private static void ending() {
-        SignForms x = new SignForms();
+        Counted x = new Counted();
         for (int wrong : new int[] {LOW, -1, 4, HIGH}) {
             due.is("end, no such stream", x.end(wrong), NONE);
         }
@@ -219,7 +219,7 @@ public final class PromisesTest {
 
     // Promise 6
     private static void aboutStreams() {
-        SignForms x = new SignForms();
+        Counted x = new Counted();
         x.open(0, 0, 0);
         for (int wrong : new int[] {LOW, -1, 4, HIGH}) {
             due.is("about, no such stream", x.about(wrong, 0), NONE);
@@ -282,7 +282,7 @@ public final class PromisesTest {
         formsByByte("00 00 FE 00", new int[] {0, 0, 0xFE, 0}, new int[] {6, 6, 6, 0}, new int[] {0, 0, 0, 4});
         formsByByte("00 FE", new int[] {0, 0xFE}, new int[] {6, 0}, new int[] {0, 2});
         formsByByte("41 41", new int[] {0x41, 0x41}, new int[] {0, 0}, new int[] {1, 2});
-        SignForms x = new SignForms();
+        Counted x = new Counted();
         x.open(0, 6, 2);
         put(x, 0, 0xFF);
         due.is("not broken before it is found", x.about(0, 6), NONE);
@@ -292,7 +292,7 @@ public final class PromisesTest {
 
     /** The form and the bytes of the mark that an ended stream has, and its signs. */
     private static void found(String row, int form, int mark, int signs, int... bytes) {
-        SignForms x = new SignForms();
+        Counted x = new Counted();
         x.open(2, 6, 0);
         due.is(row + ", before any", x.about(2, 0), 6);
         put(x, 2, bytes);
@@ -309,7 +309,7 @@ public final class PromisesTest {
     }
 
     private static void formsByByte(String row, int[] bytes, int[] forms, int[] signs) {
-        SignForms x = new SignForms();
+        Counted x = new Counted();
         x.open(2, 6, 0);
         for (int k = 0; k < bytes.length; k++) {
             due.is(row + ", signs behind byte " + k, x.put(2, bytes[k], 1), signs[k]);
@@ -344,7 +344,7 @@ public final class PromisesTest {
 
     /** How many signs a stream has behind each byte, and ended. */
     private static void told(String row, int form, int[] bytes, int[] signs, int ended) {
-        SignForms x = new SignForms();
+        Counted x = new Counted();
         x.open(0, form, 0);
         for (int k = 0; k < bytes.length; k++) {
             due.is(row + ", signs behind byte " + k, x.put(0, bytes[k], 1), signs[k]);
@@ -379,7 +379,7 @@ public final class PromisesTest {
     }
 
     private static void parted(int form, int[] bytes, int... lengths) {
-        SignForms x = new SignForms();
+        Counted x = new Counted();
         x.open(0, form, 0);
         put(x, 0, bytes);
         due.is("parts in form " + form, x.end(0), lengths.length);
@@ -401,7 +401,7 @@ public final class PromisesTest {
 
     // Promises 7 and 8
     private static void signsAndPlaces() {
-        SignForms x = new SignForms();
+        Counted x = new Counted();
         x.open(0, 0, 0);
         put(x, 0, 0x00, 0x7F, 0xC2, 0x80, 0xFF, 0xEF, 0xBF, 0xBD, 0xF4, 0x8F, 0xBF, 0xBF, 0xE2);
         signs(x, 0, 0, 0x7F, 0x80, 0xFFFD, 0xFFFD, 0x10FFFF);
@@ -437,7 +437,7 @@ public final class PromisesTest {
 
     // Promise 9
     private static void signOverPlace() {
-        SignForms x = new SignForms();
+        Counted x = new Counted();
         x.open(0, 6, 0);
         put(x, 0, 0xEF, 0xBB, 0xBF, 0x41, 0xE2, 0x82, 0xAC, 0xF0, 0x9F, 0x42, 0xC3);
         over(x, 0, NONE, NONE, NONE, 0, 1, 1, 1, 2, 2, 3, NONE, NONE);
@@ -457,7 +457,7 @@ public final class PromisesTest {
         }
     }
 
-    private static void over(SignForms x, int stream, int... numbers) {
+    private static void over(Counted x, int stream, int... numbers) {
         for (int place = 0; place < numbers.length; place++) {
             due.is("at(" + stream + ", " + place + ")", x.at(stream, place), numbers[place]);
         }
@@ -465,7 +465,7 @@ public final class PromisesTest {
 
     // Promise 10
     private static void writing() {
-        SignForms x = new SignForms();
+        Counted x = new Counted();
         x.open(0, 0, 0);
         put(x, 0, 0x41, 0xC3, 0xA9, 0xE2, 0x82, 0xAC, 0xF0, 0x9F, 0x98, 0x80, 0xC3);
         written(x, 0, false, 0x41, 0xC3, 0xA9, 0xE2, 0x82, 0xAC, 0xF0, 0x9F, 0x98, 0x80);
@@ -500,7 +500,7 @@ public final class PromisesTest {
     }
 
     private static void roomOfWrite() {
-        SignForms x = new SignForms();
+        Counted x = new Counted();
         x.open(0, 0, 0);
         for (int k = 0; k < 250; k++) {
             x.put(0, -1L, 8);
@@ -513,6 +513,7 @@ public final class PromisesTest {
         due.is("the out stays right", x.check(0), RIGHT);
         due.is("pour of 6000", x.pour(0, 0, 6000), ROOM);
         due.is("form before ROOM", x.write(0, 6, false), NONE);
+        x = new Counted();
         x.open(0, 0, 0);
         x.put(0, 0x41FFFFFFFFFFFFFFL, 8);
         for (int k = 1; k < 250; k++) {
@@ -520,6 +521,7 @@ public final class PromisesTest {
         }
         due.is("write of 5998", x.write(0, 0, false), 5998);
         due.is("write of 6001", x.write(0, 0, true), ROOM);
+        x = new Counted();
         x.open(0, 0, 0);
         for (int k = 0; k < 187; k++) {
             x.put(0, 0x4141414141414141L, 8);
@@ -531,7 +533,7 @@ public final class PromisesTest {
         due.is("write of 6004", x.write(0, 4, true), ROOM);
     }
 
-    private static void written(SignForms x, int form, boolean marked, int... bytes) {
+    private static void written(Counted x, int form, boolean marked, int... bytes) {
         String name = "write in form " + form;
         due.is(name, x.write(0, form, marked), bytes.length);
         for (int i = 0; i < bytes.length; i++) {
@@ -543,7 +545,7 @@ public final class PromisesTest {
 
     // Promise 11
     private static void sizes() {
-        SignForms x = new SignForms();
+        Counted x = new Counted();
         x.open(0, 3, 0);
         int[] edges = {0, 0x7F, 0x80, 0x7FF, 0x800, 0xFFFF, 0x10000, 0x10FFFF};
         for (int edge : edges) {
@@ -582,13 +584,13 @@ public final class PromisesTest {
 
     // Promise 12
     private static void outBytes() {
-        SignForms x = new SignForms();
+        Counted x = new Counted();
         for (int wrong : new int[] {LOW, -1, 0, 5999, 6000, HIGH}) {
             due.is("out of nothing", x.out(wrong), NONE);
         }
         x.open(0, 3, 0);
-        for (int value = 0; value < 256; value++) {
-            x.put(0, value, 4);
+        for (int value = 0; value < 256; value += 2) {
+            x.put(0, (long) value << 32 | value + 1, 8);
         }
         x.write(0, 4, false);
         for (int value = 0; value < 256; value++) {
@@ -606,7 +608,7 @@ public final class PromisesTest {
 
     // Promise 13
     private static void checking() {
-        SignForms x = new SignForms();
+        Counted x = new Counted();
         for (int wrong : new int[] {LOW, -1, 6, 7, HIGH}) {
             due.is("check, form", x.check(wrong), NONE);
         }
@@ -639,7 +641,7 @@ public final class PromisesTest {
     }
 
     /** What check answers for each form when the signs were written in one. */
-    private static void checked(SignForms x, int form, int... answers) {
+    private static void checked(Counted x, int form, int... answers) {
         x.write(0, form, false);
         for (int other = 0; other < answers.length; other++) {
             due.is("check(" + other + ") of form " + form, x.check(other), answers[other]);
@@ -648,7 +650,7 @@ public final class PromisesTest {
 
     // Promise 14
     private static void ordering() {
-        SignForms x = new SignForms();
+        Counted x = new Counted();
         ordered(x, new int[] {}, new int[] {}, 0, 0, 0);
         ordered(x, new int[] {}, new int[] {0}, 1, 1, 1);
         ordered(x, new int[] {0x41, 0x42}, new int[] {0x41, 0x42}, 0, 0, 0);
@@ -680,7 +682,7 @@ public final class PromisesTest {
         due.is("order, second not open", x.order(0, 3, 2), STATE);
     }
 
-    private static void ordered(SignForms x, int[] one, int[] other, int... answers) {
+    private static void ordered(Counted x, int[] one, int[] other, int... answers) {
         fill(x, 0, 3, one);
         fill(x, 1, 3, other);
         for (int way = 0; way < 3; way++) {
@@ -692,7 +694,7 @@ public final class PromisesTest {
 
     // Promise 15
     private static void counting() {
-        SignForms x = new SignForms();
+        Counted x = new Counted();
         fill(x, 0, 3, new int[] {0, 0x41, 0x42, 0x42, 0xFFFF, 0x10FFFF, 0xD800});
         due.is("among one", x.among(0, 0x42, 0x42), 2);
         due.is("among some", x.among(0, 0x41, 0x42), 3);
@@ -710,7 +712,7 @@ public final class PromisesTest {
         due.is("among, not open", x.among(1, 1, 0), STATE);
     }
 
-    private static void fill(SignForms x, int stream, int form, int[] units) {
+    private static void fill(Counted x, int stream, int form, int[] units) {
         x.open(stream, form, 0);
         for (int unit : units) {
             x.put(stream, unit, 4);
@@ -718,7 +720,7 @@ public final class PromisesTest {
     }
 
     /** Puts bytes one by one; answers what the last put answered. */
-    private static int put(SignForms x, int stream, int... bytes) {
+    private static int put(Counted x, int stream, int... bytes) {
         int last = 0;
         for (int value : bytes) {
             last = x.put(stream, value, 1);
@@ -726,13 +728,13 @@ public final class PromisesTest {
         return last;
     }
 
-    private static void facts(SignForms x, int stream, int... facts) {
+    private static void facts(Counted x, int stream, int... facts) {
         for (int what = 0; what < facts.length; what++) {
             due.is("about(" + stream + ", " + what + ")", x.about(stream, what), facts[what]);
         }
     }
 
-    private static void signs(SignForms x, int stream, int... signs) {
+    private static void signs(Counted x, int stream, int... signs) {
         due.is("signs of " + stream, x.about(stream, 2), signs.length);
         for (int i = 0; i < signs.length; i++) {
             due.is("sign(" + stream + ", " + i + ")", x.sign(stream, i), signs[i]);
@@ -740,7 +742,7 @@ public final class PromisesTest {
         due.is("sign behind the last", x.sign(stream, signs.length), NONE);
     }
 
-    private static void row(SignForms x, int stream, int what, int... row) {
+    private static void row(Counted x, int stream, int what, int... row) {
         for (int i = 0; i < row.length; i++) {
             due.is("placed(" + stream + ", " + i + ", " + what + ")", x.placed(stream, i, what), row[i]);
         }
