@@ -9,6 +9,7 @@ public final class PromiseBoundaryTest {
     private static final Due due = new Due();
 
     public static void main(String[] args) {
+        the512thCallIsAnswered();
         newObjectHasNoStreamOpen();
         newObjectHasAnEmptyOut();
         openTakesTheLeastAndTheMost();
@@ -27,6 +28,7 @@ public final class PromiseBoundaryTest {
         endTellsWhatWaits();
         aboutAnEmptyStream();
         aboutAFullStream();
+        aboutBytesThatAreNotDecided();
         aboutTheFirstSubpart();
         signsFrom0();
         placedFrom0();
@@ -42,6 +44,7 @@ public final class PromiseBoundaryTest {
         orderOfARowThatGoesOn();
         orderOfFullRows();
         orderByTheWays();
+        orderOfStreamsInEveryState();
         amongBothEnds();
         amongNone();
         due.close("PromiseBoundaryTest");
@@ -53,6 +56,17 @@ public final class PromiseBoundaryTest {
             text.append(what > 0 ? " " : "").append(x.about(stream, what));
         }
         due.is(name + ": all about " + stream, text.toString(), facts);
+    }
+
+    // "An object is used for at most 512 calls after it has been made"
+    private static void the512thCallIsAnswered() {
+        Counted x = new Counted();
+        x.open(0, 0, 0);
+        for (int came = 1; came <= Counted.MOST_CALLS - 2; came++) {
+            due.is("put, byte " + came, x.put(0, 0x41, 1), came);
+        }
+        due.is("the last call", x.end(0), Counted.MOST_CALLS - 2);
+        due.is("calls left", x.callsLeft(), 0);
     }
 
     // Promise 1: "No stream is open"
@@ -371,6 +385,36 @@ public final class PromiseBoundaryTest {
         facts("marked", x, 0, "2 2000 999 0 0 0 -1 1 -1");
     }
 
+    // Promise 6: "4 bytes that are not decided", the most that can wait in each form, and one more
+    private static void aboutBytesThatAreNotDecided() {
+        waiting(0, "41 F4 8F BF", 3);
+        waiting(0, "41 F4 8F BF BF", 0);
+        waiting(1, "00 41 DB FF DF", 3);
+        waiting(1, "00 41 DB FF DF FF", 0);
+        waiting(2, "41 00 FF DB FF", 3);
+        waiting(2, "41 00 FF DB FF DF", 0);
+        waiting(3, "00 00 00 41 FF FF FF", 3);
+        waiting(3, "00 00 00 41 FF FF FF FF", 0);
+        waiting(4, "41 00 00 00 FF FF FF", 3);
+        waiting(4, "41 00 00 00 FF FF FF FF", 0);
+        waiting(5, "41 ED AF BF ED BF", 5);
+        waiting(5, "41 ED AF BF ED BF BF", 0);
+        waiting(6, "FF FE 00", 3);
+        waiting(6, "FF FE 00 00", 0);
+        waiting(6, "EF BB BF F4 8F BF", 3);
+    }
+
+    private static void waiting(int form, String row, int count) {
+        for (int policy = 0; policy <= 2; policy++) {
+            Counted x = new Counted();
+            x.open(0, form, policy);
+            Rows.put(x, 0, row);
+            due.is("form " + form + ", " + row + ": not decided", x.about(0, 4), count);
+            x.end(0);
+            due.is("form " + form + ", " + row + ": not decided, ended", x.about(0, 4), 0);
+        }
+    }
+
     // Promise 6: "6 the PLACE of the SUBPART that broke it (NONE)", "8 the PLACE of its first SUBPART (NONE)"
     private static void aboutTheFirstSubpart() {
         int[] broken = {NONE, NONE, 0};
@@ -649,6 +693,13 @@ public final class PromiseBoundaryTest {
         due.is("of four bytes", x.check(4), RIGHT);
         x = new Counted();
         x.open(0, 0, 0);
+        Rows.fill(x, 0, 0x41, 1499);
+        x.put(0, 0xC3BF, 2);
+        x.write(0, 3, false);
+        due.is("a SUBPART that is the last of 6000 bytes", x.check(0), 5999);
+        due.is("a SUBPART that is the last of 6000 bytes, halved", x.check(5), 5999);
+        x = new Counted();
+        x.open(0, 0, 0);
         Rows.fill(x, 0, 0x41, 1999);
         x.write(0, 0, false);
         due.is("of 1999 in pairs", x.check(1), 1998);
@@ -739,8 +790,35 @@ public final class PromiseBoundaryTest {
         ordered("0", "100", "1 1 1");
         ordered("0", "1", "1 1 1");
         ordered("1FF", "2FE", "1 1 2");
+        ordered("FF00", "1", "2 2 1");
+        ordered("FEFF", "FFFE", "1 1 2");
+        ordered("103FF", "50000", "1 1 1");
+        ordered("50000", "1FC00", "2 2 1");
+        ordered("10FFFF", "103FF", "2 2 2");
         ordered("41 FFFF 0", "41 10000 10FFFF", "1 2 2");
         ordered("41 10FFFF", "42 0", "1 1 1");
+    }
+
+    // Promise 14: "STATE: one is not open": ended, broken and waiting ones have an order
+    private static void orderOfStreamsInEveryState() {
+        Counted x = new Counted();
+        x.open(0, 0, 0);
+        Rows.put(x, 0, "41 C3");
+        x.open(1, 0, 2);
+        Rows.put(x, 1, "41 FF 42");
+        x.open(2, 6, 0);
+        Rows.put(x, 2, "FE FF 00 41");
+        x.end(2);
+        for (int way = 0; way <= 2; way++) {
+            due.is("waiting and broken", x.order(0, 1, way), 0);
+            due.is("broken and ended", x.order(1, 2, way), 0);
+            due.is("ended and waiting", x.order(2, 0, way), 0);
+            due.is("not open", x.order(2, 3, way), STATE);
+        }
+        x.end(0);
+        x.end(1);
+        due.is("what waited was told at the end", x.order(0, 1, 0), 2);
+        due.is("both ended", x.order(1, 2, 0), 0);
     }
 
     // Promise 15: "How many of a stream's signs are from .. to (numbers)"
